@@ -325,7 +325,7 @@ public final class DayCutPlans {
 
         // the depth of the recursion is the pattern's number, six at most
         private void tellPatternsFrom(int pattern) {
-            if (pattern >= yard.patterns) {
+            if (pattern >= yard.patterns || pattern >= MAX_PATTERNS) {
                 lookAtPlan();
                 return;
             }

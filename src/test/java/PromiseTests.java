@@ -131,6 +131,13 @@ public final class PromiseTests {
         due("480 minutes take four logs of 120", 4, () -> day.used(0));
         due("no change is counted", 480, () -> day.best(1));
         due("a product without an order is worth nothing", 0, () -> day.made(1));
+
+        DayCutPlans minute = new DayCutPlans();
+        minute.logs(0, 2, 0);
+        minute.pattern(0, 480);
+        minute.pattern(0, 1);
+        due("run of 481 minutes", 0, () -> minute.run(100));
+        due("480 minutes have no room for one more: 0 0, 0 1, 0 2, 1 0", 6, () -> minute.search(0));
         compare("NONE", "-1", Integer.toString(DayCutPlans.NONE));
     }
 
@@ -414,6 +421,10 @@ public final class PromiseTests {
         due("gain of one pattern", 90, () -> x.best(0));
         due("minutes of one pattern", 307, () -> x.best(1));
         due("one pattern", 1, () -> x.best(2));
+        x.logs(0, 1, 10);
+        x.run(20000);
+        due("minutes of one log", 107, () -> x.best(1));
+        due("one pattern by one log", 1, () -> x.best(2));
     }
 
     private static void promise11Made() {
@@ -548,6 +559,43 @@ public final class PromiseTests {
         refused("the empty plan does not fill", STATE, () -> empty.cost(0, 0));
     }
 
+    /** Six logs and six boards ordered, so that one plan alone fills: a log of each pattern. */
+    private static void allPatternsAtOnce() {
+        DayCutPlans x = new DayCutPlans();
+        int[] logs = {2, 2, 1, 1};
+        int[] least = {3, 1, 1, 1};
+        int[] productOf = {0, 2, 0, 0, 1, 3};
+        for (int k = 0; k < 4; k++) {
+            x.logs(k, logs[k], 10 + k);
+            x.order(k, least[k], 9, 100);
+        }
+        for (int pattern = 0; pattern < 6; pattern++) {
+            x.pattern(pattern % 4, pattern + 1);
+            x.gives(pattern, productOf[pattern], 1);
+        }
+        x.hours(21 + 6 * 9, 9);
+        due("run of six patterns", 0, () -> x.run(20000));
+        due("all are used", 6, () -> x.best(2));
+        due("all their minutes", 75, () -> x.best(1));
+        for (int pattern = 0; pattern < 6; pattern++) {
+            int asked = pattern;
+            due("used(" + pattern + ")", 1, () -> x.used(asked));
+        }
+        for (int product = 0; product < 4; product++) {
+            int asked = product;
+            due("made(" + product + ")", least[product], () -> x.made(asked));
+        }
+        due("all they bring", 600 - 20 - 22 - 12 - 13, x::saw);
+        due("no log is left", 1, () -> x.run(20000));
+        due("only 0 logs fit", 6, () -> x.search(0));
+        x.logs(0, 2, 10);
+        x.logs(1, 2, 11);
+        x.logs(2, 1, 12);
+        x.logs(3, 1, 13);
+        x.hours(74, 9);
+        due("a minute too few", 1, () -> x.run(20000));
+    }
+
     private static void callsThatWearOut() {
         DayCutPlans x = new DayCutPlans();
         for (int cls = 0; cls < 4; cls++) {
@@ -595,6 +643,8 @@ public final class PromiseTests {
         promise13Mill();
         promise = "promise 14";
         promise14Cost();
+        promise = "six patterns";
+        allPatternsAtOnce();
         promise = "512 calls";
         callsThatWearOut();
         System.out.println(checks + " answers, " + wrong + " of them wrong");
