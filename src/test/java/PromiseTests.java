@@ -1,55 +1,5 @@
 // One method for each promise of the document: ordinary inputs, the edges, wrong inputs.
-public final class PromiseTests {
-    private static final String INDEX = "IndexOutOfBoundsException";
-    private static final String ARGUMENT = "IllegalArgumentException";
-    private static final String STATE = "IllegalStateException";
-    private static final int LOW = Integer.MIN_VALUE;
-    private static final int HIGH = Integer.MAX_VALUE;
-
-    private static int wrong = 0;
-    private static int checks = 0;
-    private static String promise = "";
-
-    private interface Call {
-        int answer();
-    }
-
-    private interface Deed {
-        void go();
-    }
-
-    private static void due(String what, int want, Call call) {
-        compare(what, Integer.toString(want), outcome(call));
-    }
-
-    private static void refused(String what, String want, Call call) {
-        compare(what, want, outcome(call));
-    }
-
-    /** The answer, or the name of the very class that was thrown. */
-    private static String outcome(Call call) {
-        try {
-            return Integer.toString(call.answer());
-        } catch (RuntimeException e) {
-            return e.getClass().getSimpleName();
-        }
-    }
-
-    private static void refusedDeed(String what, String want, Deed deed) {
-        refused(what, want, () -> {
-            deed.go();
-            return 0;
-        });
-    }
-
-    private static void compare(String what, String want, String got) {
-        checks++;
-        if (!want.equals(got)) {
-            wrong++;
-            System.out.println(promise + ": " + what + " answered " + got + ", due is " + want);
-        }
-    }
-
+public final class PromiseTests extends Checks {
     /** Two patterns of two classes: pattern 0 makes product 0, pattern 1 makes product 1. */
     private static DayCutPlans smallMill() {
         DayCutPlans x = new DayCutPlans();
@@ -62,22 +12,6 @@ public final class PromiseTests {
         x.order(0, 0, 100, 20);
         x.order(1, 0, 100, 7);
         return x;
-    }
-
-    private static void nothingIsBest(String when, DayCutPlans x) {
-        refused(when + ": best(0)", STATE, () -> x.best(0));
-        refused(when + ": best(1)", STATE, () -> x.best(1));
-        refused(when + ": best(2)", STATE, () -> x.best(2));
-        refused(when + ": made(3)", STATE, () -> x.made(3));
-        refused(when + ": saw()", STATE, x::saw);
-    }
-
-    private static void nothingIsSearched(String when, DayCutPlans x) {
-        for (int what = 0; what < 4; what++) {
-            int asked = what;
-            refused(when + ": search(" + what + ")", STATE, () -> x.search(asked));
-        }
-        nothingIsBest(when, x);
     }
 
     /** The deed tells something, so that the search before it counts no more. */
@@ -104,10 +38,7 @@ public final class PromiseTests {
         DayCutPlans x = new DayCutPlans();
         nothingIsSearched("new", x);
         refused("used(0) without patterns", INDEX, () -> x.used(0));
-        for (int what = 0; what < 6; what++) {
-            int asked = what;
-            due("mill(" + what + ") of a new object", 0, () -> x.mill(asked));
-        }
+        dueInTurn("mill of a new object", new int[6], x::mill);
         due("run(0) of the empty plan", 0, () -> x.run(0));
         due("its steps", 0, () -> x.search(0));
         due("it is proved", 1, () -> x.search(1));
@@ -577,14 +508,8 @@ public final class PromiseTests {
         due("run of six patterns", 0, () -> x.run(20000));
         due("all are used", 6, () -> x.best(2));
         due("all their minutes", 75, () -> x.best(1));
-        for (int pattern = 0; pattern < 6; pattern++) {
-            int asked = pattern;
-            due("used(" + pattern + ")", 1, () -> x.used(asked));
-        }
-        for (int product = 0; product < 4; product++) {
-            int asked = product;
-            due("made(" + product + ")", least[product], () -> x.made(asked));
-        }
+        dueInTurn("used", new int[] {1, 1, 1, 1, 1, 1}, x::used);
+        dueInTurn("made", least, x::made);
         due("all they bring", 600 - 20 - 22 - 12 - 13, x::saw);
         due("no log is left", 1, () -> x.run(20000));
         due("only 0 logs fit", 6, () -> x.search(0));
@@ -607,7 +532,8 @@ public final class PromiseTests {
             x.gives(pattern, pattern % 4, 9);
         }
         x.hours(1440, 1);
-        for (int call = 0; call < 490; call++) {
+        // 21 calls before these and 2 behind them: 512, as many as an object answers for
+        for (int call = 0; call < 489; call++) {
             due("run by all steps", 2, () -> x.run(20000));
         }
         due("steps", 20000, () -> x.search(0));
@@ -615,41 +541,38 @@ public final class PromiseTests {
     }
 
     public static void main(String[] args) {
-        promise = "promise 1";
+        under("promise 1");
         promise1NewObject();
-        promise = "promise 2";
+        under("promise 2");
         promise2Logs();
-        promise = "promise 3";
+        under("promise 3");
         promise3Pattern();
-        promise = "promise 4";
+        under("promise 4");
         promise4Gives();
-        promise = "promise 5";
+        under("promise 5");
         promise5Order();
-        promise = "promise 6";
+        under("promise 6");
         promise6Hours();
-        promise = "promise 7";
+        under("promise 7");
         promise7Run();
-        promise = "promise 8";
+        under("promise 8");
         promise8Search();
-        promise = "promise 9";
+        under("promise 9");
         promise9Used();
-        promise = "promise 10";
+        under("promise 10");
         promise10Best();
-        promise = "promise 11";
+        under("promise 11");
         promise11Made();
-        promise = "promise 12";
+        under("promise 12");
         promise12Saw();
-        promise = "promise 13";
+        under("promise 13");
         promise13Mill();
-        promise = "promise 14";
+        under("promise 14");
         promise14Cost();
-        promise = "six patterns";
+        under("six patterns");
         allPatternsAtOnce();
-        promise = "512 calls";
+        under("512 calls");
         callsThatWearOut();
-        System.out.println(checks + " answers, " + wrong + " of them wrong");
-        if (wrong != 0) {
-            System.exit(1);
-        }
+        end();
     }
 }
