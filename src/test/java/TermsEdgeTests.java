@@ -142,6 +142,8 @@ public final class TermsEdgeTests extends Checks {
         runIs("a pattern that is not used takes no change", 0, x, () -> x.hours(207, 7));
         bestIs("with one change", x, 2, 207, 1);
         runIs("a minute less than that", 1, x, () -> x.hours(206, 7));
+        runIs("a pattern without logs spares no change either", 1, x, () -> x.logs(1, 0, 0));
+        runIs("nor does it take one", 0, x, () -> x.hours(207, 7));
         x.order(0, 0, 0, 0);
         runIs("a plan of no logs takes no change", 0, x, () -> x.hours(0, 7));
         bestIs("with no change", x, 0, 0, 0);
