@@ -58,7 +58,7 @@ public final class FaceTests {
         List<String> twice = new ArrayList<>();
         for (Class<?> c : classes) {
             for (Method m : c.getDeclaredMethods()) {
-                if (Modifier.isPrivate(m.getModifiers()) && publicNames.contains(m.getName())) {
+                if (!Modifier.isPublic(m.getModifiers()) && publicNames.contains(m.getName())) {
                     twice.add(m.toString());
                 }
             }
@@ -91,6 +91,10 @@ public final class FaceTests {
             System.out.println("the class is not public and final");
         }
         for (Class<?> c : DayCutPlans.class.getDeclaredClasses()) {
+            if (!Modifier.isStatic(c.getModifiers())) {
+                good = false;
+                System.out.println("not static: " + c);
+            }
             if (Modifier.isPublic(c.getModifiers()) || Modifier.isProtected(c.getModifiers())) {
                 good = false;
                 System.out.println("seen from outside: " + c);
